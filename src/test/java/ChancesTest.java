@@ -39,10 +39,21 @@ public final class ChancesTest {
         // 0, 5, 5: one on LINE 2 draws it away, unless one comes on LINE 1, too
         c.told("33: the other one has the last word", v, v.duel(1, 0, 1), 1, -3);
         c.told("33: the first one lays in time", v, v.duel(0, 1, 1), 1, 3);
+        // one turn: the first one's on LINE 1 would draw mouse 1 there, but the other one's on LINE 2 draws it back
+        turns("rl510l410l610m04m12", -4, -4, -2);
+        turns("rl110l010l210m04g12", -4, -4, 0);
+        turns("rl810l710l710y01g21", -1, -1, 1);
         MiceRegisters w = Checks.with("rl510l510m03");
         w.cat(0);
         w.wax(1);
         c.told("33: cat and wax", w, w.duel(0, 1, 2), 1, 0);
+    }
+
+    private static void turns(String text, int... due) {
+        MiceRegisters x = Checks.with(text);
+        for (int n = 0; n < due.length; n++) {
+            c.told("33: duel(0, 1, " + n + ") of " + text, x, x.duel(0, 1, n), 1, due[n]);
+        }
     }
 
     /** The first one draws the mouse to LINE 0 by one CHEESE; the other one can't draw it back, there are 20. */

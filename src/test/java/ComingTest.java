@@ -107,6 +107,12 @@ public final class ComingTest {
         c.told("26: of like ones the first", y, y.save(1, 2), 6, 0);
         MiceRegisters z = Checks.with("rl040l502l140m11");
         c.told("26: the least ahead of the first", z, z.save(1, 2), 6, 2);
+        MiceRegisters just = Checks.with("rl502l740m03");
+        c.told("26: just not needed", just, just.save(0, 1), 0, NONE);
+        MiceRegisters one = Checks.with("rl502l640m03");
+        c.told("26: just one", one, one.save(0, 1), 1, 1);
+        MiceRegisters far = Checks.with("rl140l940m11");
+        c.told("26: save(0, 20)", far, far.save(0, 20), 0, NONE);
         MiceRegisters gone = Checks.with("rl501l540m01");
         gone.year();
         c.due("26: eaten up", gone.save(0, 1), NONE);

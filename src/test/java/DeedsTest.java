@@ -187,6 +187,11 @@ public final class DeedsTest {
         c.due("19: as behind the first", x.digest(), states[1]);
         c.due("19: all", x.undo(0), 1);
         c.due("19: as at first", x.digest(), states[0]);
+        MiceRegisters y = Checks.with("rl920l420m12");
+        y.year();
+        c.due("19: away", Checks.mouse(y, 0, 1), 0);
+        y.undo(0);
+        c.due("19: where it was at first", Checks.mouse(y, 0, 1), 1);
     }
 
     private static void keepAndOn() {
@@ -217,6 +222,16 @@ public final class DeedsTest {
         c.due("21: on(2)", x.on(2), 0);
         c.due("21: no deeds", x.count(3), 0);
         c.due("21: all letters", x.count(4), 40);
+        c.due("21: on(0), from another past", x.on(0), 2);
+        x.undo(0);
+        x.wax(1);
+        x.cheese(0, 2);
+        x.year();
+        c.due("21: other deeds, then on(0)", x.on(0), 2);
+        c.due("21: as it was, all the same", x.digest(), two);
+        c.due("21: undone from there", x.undo(1), 1);
+        c.due("21: the first deed is the kept one", Checks.line(x, 1, 3), 5);
+        x.undo(0);
         c.due("20: kept over", x.keep(0), 0);
         c.due("20: still two", x.count(13), 2);
         c.due("21: on(0), kept over", x.on(0), 0);

@@ -35,6 +35,8 @@ public final class GuessTest {
         c.found(what + ", of 11", x, () -> trace.ask(x, 0, 5), 5);
         Checks.fill(x, 5, 1, 1, 3);
         c.found(what + ", no such line", x, () -> trace.ask(x, 0, 5), 3);
+        Checks.fill(x, 5, 3, 1);
+        c.found(what + ", no such line first", x, () -> trace.ask(x, 0, 5), 3);
         Checks.fill(x, 5, 1, -1);
         c.found(what + ", line -1", x, () -> trace.ask(x, 0, 5), 3);
         Checks.fill(x, 5, 1, 1, 1, 1, 1, 1, 1, 1, 1, 1);
@@ -104,6 +106,10 @@ public final class GuessTest {
         Checks.fill(late, 0, 0);
         // 10 years for hungry and greedy ones, 20 for the others: behind the 11th these two are away
         c.told("30: late", late, late.look(0, 0), 11, 4);
+        MiceRegisters last = Checks.with("rl538l540m01");
+        Checks.fill(last, 0, 0);
+        // 19 years for hungry and greedy ones: behind the 20th they are away
+        c.told("30: in the last year", last, last.look(0, 0), 20, 4);
         MiceRegisters later = Checks.with("rl540l540m01");
         Checks.fill(later, 0, 0);
         // 20 years for hungry and greedy ones: not told apart behind the 20th, so all six are at one line
@@ -154,5 +160,7 @@ public final class GuessTest {
         x.year();
         c.told("32: with one eaten up", x, x.sure(45), 14, 0);
         c.due("32: upper() is not told", x.upper(), 0);
+        MiceRegisters y = Checks.with("rl540l540l540l540l540l540l540l540m01");
+        c.told("32: sure(320)", y, y.sure(320), 255, 0);
     }
 }

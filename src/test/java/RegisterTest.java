@@ -42,6 +42,9 @@ public final class RegisterTest {
         faultIs("r l59", 5);
         faultIs("r lx20m01", 3);
         faultIs("r l 20m01", 3);
+        faultIs("r l/20m01", 3);
+        faultIs("r l:20m01", 3);
+        faultIs("r l52/m01", 5);
         faultIs("r l5x0m01", 4);
         faultIs("r l5/0m01", 4);
         faultIs("r l5:0m01", 4);
@@ -70,6 +73,8 @@ public final class RegisterTest {
         faultIs("r l520m00", 8);
         faultIs("r l520m0 ", 8);
         faultIs("r l520m0x", 8);
+        faultIs("r l520m0:", 8);
+        faultIs("r l520m/1", 7);
         faultIs("r l520m01", NONE);
         faultIs("r l520m09", NONE);
         faultIs("r l520a01", 6);

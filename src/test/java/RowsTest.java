@@ -139,6 +139,8 @@ public final class RowsTest {
         c.found("7: missing", x, () -> x.mean(0), 1);
         x.row(0, 0);
         c.found("7: of none", x, () -> x.mean(0), 4);
+        Checks.fill(x, 0, -3);
+        c.told("7: of one", x, x.mean(0), 1, -3);
         Checks.fill(x, 0, 5, 6, 6);
         c.told("7: cut", x, x.mean(0), 1, 5);
         Checks.fill(x, 0, -5, -6, -6);
