@@ -39,7 +39,7 @@ public final class MiceRegisters {
     private final Register now = new Register();
     /** What comes is tried out here, so that the register itself stays as it is. */
     private final Register aside = new Register();
-    /** A second one, for what is tried out from a place within what is tried out. */
+    /** A second one: a duel tries out its last YEAR from many places of what is tried out. */
     private final Register further = new Register();
     private final Deeds deeds = new Deeds();
     private final Deeds[] kept = new Deeds[PLACES];
@@ -506,7 +506,7 @@ public final class MiceRegisters {
             return BAD;
         }
         aside.takeFrom(now);
-        return tell(duelFrom(2 * n, a, b, -LETTERS_MOST, LETTERS_MOST));
+        return tell(duelFrom(aside, further, 2 * n, a, b, -LETTERS_MOST, LETTERS_MOST));
     }
 
     // ---- 8 chances, lots
@@ -904,26 +904,29 @@ public final class MiceRegisters {
     }
 
     private static int liking(int kind, int wrong, int cheese, int far) {
-        if (isOfKind(kind, YOUNG)) {
-            return wrong + cheese;
+        switch (kind) {
+            case YOUNG:
+                return wrong + cheese;
+            case OLD:
+            case WHITE:
+                return (wrong <= OLD_LEAVES ? 0 : wrong) + cheese - far;
+            case GREEDY:
+                return wrong + 2 * cheese - far;
+            default:
+                return wrong + cheese - far;
         }
-        if (isOfKind(kind, GREEDY)) {
-            return wrong + 2 * cheese - far;
-        }
-        if (isOfKind(kind, OLD) && wrong <= OLD_LEAVES) {
-            return cheese - far;
-        }
-        return wrong + cheese - far;
     }
 
     private static int eatenInAYear(int kind, int teeth) {
-        if (isOfKind(kind, HUNGRY)) {
-            return 2 * teeth;
+        switch (kind) {
+            case HUNGRY:
+            case GREEDY:
+                return 2 * teeth;
+            case WHITE:
+                return teeth / 2 + 1;
+            default:
+                return teeth;
         }
-        if (isOfKind(kind, WHITE)) {
-            return teeth / 2 + 1;
-        }
-        return teeth;
     }
 
     // ---- deeds, truly and aside
@@ -973,7 +976,9 @@ public final class MiceRegisters {
     private boolean isSavedBy(int l, int years, int other, int more) {
         aside.takeFrom(now);
         aside.cheeses[other] += more;
-        aside.passYears(years);
+        for (int y = 0; y < years && aside.left[l] > 0; y++) {
+            aside.passYear(0);
+        }
         return aside.left[l] > 0;
     }
 
@@ -1031,27 +1036,27 @@ public final class MiceRegisters {
     }
 
     /**
-     * What comes out of the register aside with so many turns to go; the first one's turn if they are even.
+     * What comes out of a register with so many turns to go; the first one's turn if they are even.
      * Branches that can't change what comes out between low and high are left out: all would be thousands.
      */
-    private int duelFrom(int turns, int a, int b, int low, int high) {
+    private static int duelFrom(Register tried, Register end, int turns, int a, int b, int low, int high) {
         if (turns <= 0) {
-            further.takeFrom(aside);
-            further.passYear(0);
-            return further.left[a] - further.left[b];
+            end.takeFrom(tried);
+            end.passYear(0);
+            return end.left[a] - end.left[b];
         }
         boolean isFirst = turns % 2 == 0;
-        int best = duelFrom(turns - 1, a, b, low, high);
-        for (int l = 0; l < aside.lines; l++) {
+        int best = duelFrom(tried, end, turns - 1, a, b, low, high);
+        for (int l = 0; l < tried.lines; l++) {
             int lowNow = isFirst ? Math.max(low, best) : low;
             int highNow = isFirst ? high : Math.min(high, best);
             if (lowNow >= highNow) {
                 break;
             }
-            if (aside.cheeses[l] < CHEESE_MOST) {
-                aside.cheeses[l]++;
-                int got = duelFrom(turns - 1, a, b, lowNow, highNow);
-                aside.cheeses[l]--;
+            if (tried.cheeses[l] < CHEESE_MOST) {
+                tried.cheeses[l]++;
+                int got = duelFrom(tried, end, turns - 1, a, b, lowNow, highNow);
+                tried.cheeses[l]--;
                 best = isFirst ? Math.max(best, got) : Math.min(best, got);
             }
         }
