@@ -51,6 +51,8 @@ public final class ChancesEdgesTest {
         duelIs("nothing can be laid", withCheese("rl510l510m13", 20, 20), 0, 1, 3, 3, 3);
         // the first one must lay none: on LINE 0 the other one's next one would draw the MOUSE there
         duelIs("none is best", withCheese("rl610l610m03", 17, 20), 0, 1, 3, 3, -3);
+        // whatever the first one lays, the other one leaves MOUSE 1 at LINE 2; if the other one began, it would be at LINE 1
+        duelIs("the first one begins", Checks.with("rl510l410l610m04m12"), 0, 1, -4, -4);
         MiceRegisters cheese = Checks.with("rl110l010m03");
         cheese.cheese(1, 2);
         // the CHEESE gets less behind the YEAR, not ahead of it: 2 - 1 against 1, so it stays, and 1 more draws it

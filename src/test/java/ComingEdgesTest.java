@@ -157,6 +157,9 @@ public final class ComingEdgesTest {
         x.cheese(1, 1);
         e.told("20 there: none", x, x.save(0, 13), 0, NONE);
         e.still("20 there, 14 YEARS: no more can be laid", x, () -> x.save(0, 14), NONE);
+        MiceRegisters other = Checks.with("rl505l701l040m01m29");
+        // 1 on LINE 0 itself would draw MOUSE 0 there, so that it leaves LINE 1 to MOUSE 1: but it is to be another LINE
+        e.told("not on the LINE itself", other, other.save(0, 1), 3, 2);
         MiceRegisters y = Checks.with("rl520l001m01");
         e.told("19 YEARS leave 1 of 20", y, y.save(0, 19), 0, NONE);
         // it goes to LINE 1 for one YEAR, by 5 against 5 + 1: then LINE 1 is eaten up
@@ -178,6 +181,10 @@ public final class ComingEdgesTest {
         full.wax(0);
         full.cheese(2, 5);
         e.told("one more there", full, full.save(1, 2), 1, 2);
+        MiceRegisters just = Checks.with("rl502l740m03");
+        e.told("just none is needed: 5 against 6", just, just.save(0, 1), 0, NONE);
+        MiceRegisters needed = Checks.with("rl502l640m03");
+        e.told("just 1 is needed: 5 against 5", needed, needed.save(0, 1), 1, 1);
         MiceRegisters none = Checks.with("rl502l140m11");
         e.told("1 YEAR, none is needed", none, none.save(0, 1), 0, NONE);
         e.told("the other one, none is needed", none, none.save(1, 20), 0, NONE);
@@ -229,6 +236,9 @@ public final class ComingEdgesTest {
             e.told("wherever it is now, at " + at, more, more.guard(1), 1, 7);
             e.due("there it stays", more.count(7), at);
         }
+        MiceRegisters worse = Checks.with("rl905l801l806w23h01m18");
+        // without it 3, 0, 4 would be left; with it at 0: 5, 0, 0, at 1: 0, 1, 4, at 2: 0, 0, 6
+        e.told("at some LINE, though it saves none", worse, worse.guard(1), 2, 6);
         MiceRegisters none = Checks.with("rl901l901m01m01");
         none.year();
         e.told("nothing is left", none, none.guard(20), 0, 0);

@@ -330,5 +330,15 @@ public final class DeedsEdgesTest {
         e.due("as it was, a third time", x.digest(), three);
         e.due("the CAT was the third DEED", x.undo(2), 1);
         e.due("no CAT", x.count(7), NONE);
+        x.undo(0);
+        x.wax(1);
+        x.cheese(0, 9);
+        e.due("other DEEDS from the first one on", x.on(0), 3);
+        e.due("as it was, a fourth time", x.digest(), three);
+        x.undo(0);
+        x.cheese(1, 8);
+        x.year();
+        e.due("more of CHEESE in the first one", x.on(1), 3);
+        e.due("as it was, a fifth time", x.digest(), three);
     }
 }

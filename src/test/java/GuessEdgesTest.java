@@ -47,6 +47,10 @@ public final class GuessEdgesTest {
         e.found("of 11 ints, ahead of UNLIKE", x, () -> trace.ask(x, 1, 5), SIZE);
         Checks.fill(x, 5, 1, 1, 1, 1, 1, 1, 1, 1, 1, 1);
         e.due("of 10 ints", trace.ask(x, 1, 5) > 0 ? 1 : 0, 1);
+        x.lay(5, 1, 3);
+        x.row(5, 1);
+        e.due("of 1 int, where more stood", trace.ask(x, 1, 5) == MiceRegisters.FINDING ? 1 : 0, 0);
+        Checks.fill(x, 5, 1, 1, 1, 1, 1, 1, 1, 1, 1, 1);
         for (int l : new int[] {-1, 3, NONE, MIN, MAX}) {
             for (int place : new int[] {0, 9}) {
                 x.lay(5, place, l);

@@ -198,6 +198,15 @@ final class TextEdges {
         faultIs("rl101  ", 7);
         faultIs("rl101m01  y", 11);
         faultIs("rl101m01  y0", 12);
+        faultIs("rl101" + " ".repeat(54) + "m", 60);
+        faultIs("rl101" + " ".repeat(53) + "m0", 60);
+        faultIs(" ".repeat(57) + "rl1", 60);
+        MiceRegisters x = new MiceRegisters();
+        for (int size = whole.length(); size >= 0; size--) {
+            // what stood behind is no more part of it
+            Checks.write(x, 2, whole.substring(0, size));
+            e.due("made shorter, of " + size, x.fault(2), size == 12 || size == 15 ? NONE : size);
+        }
         faultIs("rl1", 3);
         faultIs("rl14", 4);
         faultIs("rl19", 4);
