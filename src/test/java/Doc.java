@@ -19,13 +19,17 @@ final class Doc {
     }
 
     static Doc read() {
-        String told = System.getenv("MICE_DOC");
-        Path path = Path.of(told == null ? "../shared/DOC.md" : told);
+        return new Doc(whole());
+    }
+
+    /** All of it, or nothing, if it is not there. */
+    static String whole() {
+        Path path = Sources.document();
         try {
-            return new Doc(Files.readString(path));
+            return Files.readString(path);
         } catch (IOException missing) {
             System.out.println("no document at " + path + ": quotes are not looked up");
-            return new Doc("");
+            return "";
         }
     }
 

@@ -4,7 +4,6 @@ import java.lang.reflect.Field;
 import java.lang.reflect.Method;
 import java.lang.reflect.Modifier;
 import java.nio.file.Files;
-import java.nio.file.Path;
 import java.util.Set;
 import java.util.TreeSet;
 
@@ -92,9 +91,7 @@ public final class LanguageTest {
     }
 
     private static void words() throws IOException {
-        String told = System.getenv("MICE_SOURCE");
-        Path path = Path.of(told == null ? "src/main/java/MiceRegisters.java" : told);
-        String source = Files.readString(path).replaceAll("(?s)/\\*.*?\\*/", "").replaceAll("//.*", "");
+        String source = Files.readString(Sources.main()).replaceAll("(?s)/\\*.*?\\*/", "").replaceAll("//.*", "");
         for (String word : WORDS) {
             boolean isWord = Character.isLetter(word.charAt(0)) && Character.isLetter(word.charAt(word.length() - 1));
             String quoted = java.util.regex.Pattern.quote(word);
